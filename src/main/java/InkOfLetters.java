@@ -224,9 +224,7 @@ public final class InkOfLetters {
         if (refusal != 0) {
             return refusal - FARTHER;
         }
-        boolean known = isWithin(what, 0, 3) || what >= 10 && what <= 16 && real.has(what - 10)
-                || what >= 20 && what <= 26 && real.has(what - 20);
-        if (!known) {
+        if (!isWithin(what, 0, 3) && !real.has(what - 10) && !real.has(what - 20)) {
             return NO_ASK;
         }
         thought.become(real);
@@ -939,7 +937,7 @@ public final class InkOfLetters {
         }
     }
 
-    /** What the three parts of a text say, each as a row of tokens, those of an operand ahead of its sign. */
+    /** What a text's three parts say, each as a row of tokens: operands ahead of their sign. */
     private static final class Text {
         final int[] code = new int[MOST_BYTES];
         final int[] ends = new int[PARTS];

@@ -42,6 +42,13 @@ public final class HostTest {
         y.sheet(0, 2, 3);
         y.cell(0, 0, 1);
         C.due("all 0 again: no letters", y.post(0, 0), -1002);
+        Checks.sheet(y, 0, 2, 1, 1, 1);
+        y.sheet(0, 2, 3);
+        for (int i = 0; i < 3; i++) {
+            y.sheet(1, 2, 1);
+            y.copy(0, i, 1, 0, 1);
+            C.due("0 again at " + i, y.post(1, 0), -1002);
+        }
     }
 
     private static void cell() {

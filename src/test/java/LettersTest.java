@@ -144,6 +144,13 @@ public final class LettersTest {
         C.due("of one in whose ink there is another", y.borrow(0, 3), 5);
         mixed("all who are in it", y, 13, 2, 4, 12);
         C.due("the tone of no ink does not matter", y.told(0, 0), 7);
+        y.put(1, 0, 60);
+        y.put(1, 1, 1);
+        y.put(2, 0, 60);
+        y.put(2, 1, 0);
+        C.due("the only one", y.borrow(2, 1), 1);
+        tones("by one", y, 7, 60, 60, 7);
+        mixed("by one", y, 13, 2, 6, 12);
         C.due("one and the same", y.borrow(0, 0), -5000);
         C.due("of none such", y.borrow(0, 4), -5000);
         C.due("to none such", y.borrow(-1, 0), -5000);
@@ -173,6 +180,10 @@ public final class LettersTest {
         C.due("none into none: as it was", x.water(0, 0), 50);
         C.due("5 into none", x.water(0, 5), 0);
         inks("5", x, 5);
+        x.put(0, 0, 50);
+        x.put(0, 1, 0);
+        C.due("1 into none", x.water(0, 1), 0);
+        inks("1", x, 1);
         mixed("oneself", x, 1);
     }
 
@@ -215,10 +226,23 @@ public final class LettersTest {
         for (int what : new int[] {-1, 4, 9, 13, 16, 17, 19, 23, 26, 27, Integer.MIN_VALUE, Integer.MAX_VALUE}) {
             C.due("what " + what, x.post(0, what), -7000);
         }
+        x.put(0, 1, 0);
+        Checks.sheet(x, 2, 0, 20, 1, 12);
+        C.due("each by the ink of the letter ahead", x.post(2, 1), -1);
         InkOfLetters y = new InkOfLetters();
         for (int p = 0; p < 7; p++) {
             y.writer(0, p, p);
         }
+        Checks.sheet(y, 0, 0, 65, 60, 56);
+        C.due("none of them can", y.post(0, 1), 0);
+        y.put(6, 1, 10);
+        y.put(5, 1, 0);
+        C.due("the second can't", y.post(0, 1), 1);
+        C.due("two of them can", y.post(0, 0), 2);
+        C.due("tone of 5", y.post(0, 15), 5);
+        C.due("ink of all", y.post(0, 3), 40);
+        y.put(6, 1, 6);
+        y.put(5, 1, 5);
         y.sheet(0, 0, 0);
         C.due("tone of 6", y.post(0, 16), 6);
         C.due("mixed of 6", y.post(0, 26), 64);

@@ -190,6 +190,21 @@ public final class TextTest {
         fault("boils 1;yields 5;costs \u00e9;", 23);
         fault("boils 1;yields 5;costs 5;\u00ff", 25);
         fault("boils 1>2;yields 5;costs 5;", 7);
+        for (String sign : new String[] {"or", "and", "<", "=", "+", "-", "*"}) {
+            fault("boils 1 " + sign + ";yields 5;costs 5;", 8 + sign.length());
+            fault("boils (1 " + sign + ");yields 5;costs 5;", 9 + sign.length());
+            fault("boils 1 " + sign, 8 + sign.length());
+        }
+        for (String ahead : new String[] {"not", "-", "("}) {
+            fault("boils " + ahead + ";yields 5;costs 5;", 6 + ahead.length());
+            fault("boils (" + ahead + ");yields 5;costs 5;", 7 + ahead.length());
+        }
+        fault("boils tonez;yields 5;costs 5;", 6);
+        fault("boils atone;yields 5;costs 5;", 6);
+        fault("boils 1`;yields 5;costs 5;", 7);
+        fault("boils 1{;yields 5;costs 5;", 7);
+        fault("boils 1/;yields 5;costs 5;", 7);
+        fault("boils 1:;yields 5;costs 5;", 7);
         fault("boils 5", 7);
         fault("boils (", 7);
         fault("boils -", 7);

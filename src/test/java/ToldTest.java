@@ -10,6 +10,7 @@ public final class ToldTest {
         whose();
         laws();
         film();
+        greatest();
         inThought();
         C.end();
     }
@@ -221,6 +222,40 @@ public final class ToldTest {
         C.due("none such", y.film(0, 1, -1), -5);
         C.due("told as it was", y.copy(1, 0, 2, 0, 1), 1);
         C.due("told as it was", y.cell(1, 1, 0), 1);
+    }
+
+    /** Letters between those of the greatest numbers. */
+    private static void greatest() {
+        C.of("promises 20, 25, of seven");
+        InkOfLetters x = new InkOfLetters();
+        for (int p = 0; p < 7; p++) {
+            x.writer(0, 10 * p, 50);
+        }
+        Checks.law(x, "boils 100;yields 0;costs 0;");
+        Checks.sheet(x, 0, 0, 54, 45, 36, 65, 16);
+        C.due("film of 5", x.film(0, 1, 5), 5);
+        Checks.sheet(x, 2, 0, 50, 50, 50, 30, 30);
+        C.due("5 as told", x.judge(0, 2, 5), -1);
+        film(x, 2, 5);
+        Checks.sheet(x, 2, 0, 60, 60, 30, 30, 10);
+        C.due("6 as told", x.judge(0, 2, 6), -1);
+        film(x, 2, 6);
+        Checks.sheet(x, 2, 0, 50, 50, 50, 50, 50);
+        C.due("4 as told", x.judge(0, 2, 4), -1);
+        film(x, 2, 4);
+    }
+
+    /** The film of one, place by place, is what a sheet tells. */
+    private static void film(InkOfLetters x, int told, int p) {
+        x.film(0, 1, p);
+        int tone = x.told(p, 0);
+        for (int i = 0; i < 5; i++) {
+            x.sheet(3, 0, 5);
+            x.copy(told, 0, 3, 0, 5);
+            x.copy(1, i, 3, i, 1);
+            C.due("film of " + p + " at " + i, x.judge(0, 3, p), -1);
+        }
+        C.due("in thought", x.told(p, 0), tone);
     }
 
     private static int remade(InkOfLetters x) {
