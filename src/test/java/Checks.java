@@ -27,6 +27,24 @@ final class Checks {
         }
     }
 
+    /** As due() of numbers, of what is told in words. */
+    void due(String call, String got, String want) {
+        seen++;
+        if (!got.equals(want)) {
+            wrong++;
+            System.out.println(promise + ": " + call + " is " + got + ", due is " + want);
+        }
+    }
+
+    /** An object with these writers, each told by three numbers, as writer() has them. */
+    static InkOfLetters bureau(int... threes) {
+        InkOfLetters x = new InkOfLetters();
+        for (int i = 0; i + 2 < threes.length; i += 3) {
+            x.writer(threes[i], threes[i + 1], threes[i + 2]);
+        }
+        return x;
+    }
+
     /** Feeds a text to the tape, by fives as far as they go. */
     static void feed(InkOfLetters x, String text) {
         byte[] bytes = text.getBytes(StandardCharsets.ISO_8859_1);
